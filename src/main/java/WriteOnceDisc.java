@@ -23,6 +23,7 @@ public final class WriteOnceDisc {
   /** Identifiers that are no names: a directory's own record has the one, its parent's the other. */
   private static final int OWN = 0, PARENT = 1;
 
+  /** So many writes more, of power that does not go. */
   private static final int FOR_EVER = -1;
 
   private final Writer writer = new Writer();
@@ -36,6 +37,7 @@ public final class WriteOnceDisc {
   private int lastNumber = 0;
   private boolean isOpen = false;
   private Nodes opened = new Nodes();
+  /** What is read goes here first, so that a session that is wrong or only asked after leaves the opened one alone. */
   private Nodes scratch = new Nodes();
 
   public WriteOnceDisc(int n) {
@@ -376,7 +378,10 @@ public final class WriteOnceDisc {
 
     /** Whether a number that is told both ways is the same both times. */
     boolean halvesAgree(int address, int width) {
-      return low(address, width) == high(address + width, width);
+      for (int i = 0; i < width; i++) {
+        if (fetch(address + i) != fetch(address + 2 * width - 1 - i)) return false;
+      }
+      return true;
     }
 
     boolean hasText(int address, String text) {
@@ -681,8 +686,10 @@ public final class WriteOnceDisc {
     }
 
     void putBoth(int at, int width, int value) {
-      putLow(at, width, value);
-      putHigh(at + width, width, value);
+      for (int i = 0; i < width; i++) {
+        put(at + i, value >> 8 * i);
+        put(at + 2 * width - 1 - i, value >> 8 * i);
+      }
     }
 
     void fillWithStandard(int begins) {

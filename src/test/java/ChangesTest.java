@@ -184,6 +184,17 @@ public final class ChangesTest {
     Checks.due("rename what is gone", x.rename(2, 0, w("X")), WRONG);
     Checks.due("commit", x.commit(), 1);
     Checks.due("two nodes", x.open(0), 2);
+    WriteOnceDisc y = new WriteOnceDisc(100);
+    y.defect(0);
+    y.file(0, w("F"), 10, 99);
+    y.commit();
+    y.remove(1);
+    y.directory(0, w("F"));
+    Checks.due("a new directory has no size", y.tree(2, 2), 0);
+    Checks.due("no seed", y.tree(2, 3), 0);
+    Checks.due("no extent", y.tree(2, 4), 0);
+    y.file(0, w("G"), 10, 1);
+    Checks.due("a new file has no extent", y.tree(3, 4), 0);
   }
 
   private static void numbersAreNotGivenAgain() {

@@ -73,6 +73,9 @@ public final class CommitTest {
     bytes(x, "C", r + 144, 34, 0, 23, 0, 0, 0, 0, 0, 0, 23, 0, 8, 0, 0, 0, 0, 8, 0);
     bytes(x, "C on", r + 162, 0, 0, 0, 0, 0, 0, 0, 2, 0, 0, 1, 0, 0, 1, 1, 'C');
     bytes(x, "behind", r + 178, 0, 0, 0, 0);
+    for (int i = 7; i < 80; i++) Checks.due("the descriptor's byte " + i, x.byteAt(18 * 2048 + i), 0);
+    for (int i = 7; i < 200; i++) Checks.due("the end's byte " + i, x.byteAt(19 * 2048 + i), 0);
+    for (int i = 12; i < 80; i++) Checks.due("the mark's byte " + i, x.byteAt(24 * 2048 + i), 0);
     bytes(x, "C itself", r + 2048, 34, 0, 23);
     bytes(x, "C's parent", r + 2048 + 34, 34, 0, 22);
     bytes(x, "behind in C", r + 2048 + 68, 0, 0);

@@ -17,6 +17,7 @@ public final class DiscoveryTest {
     compactingWithoutRoom();
     compactingGivesRoom();
     compactingAgainAndAgain();
+    compactingOntoWhatWasThere();
     Checks.finish();
   }
 
@@ -44,6 +45,7 @@ public final class DiscoveryTest {
     x.file(5, w("E"), 30, 4);
     Checks.due("commit", x.commit(), 1);
     Checks.due("discover", x.discover(), 1);
+    node(x, 0, NONE, 0, 0, 0);
     node(x, 1, 0, 0, 0, 0);
     node(x, 2, 0, 0, 0, 0);
     node(x, 3, 0, 1, 10, 0);
@@ -298,6 +300,24 @@ public final class DiscoveryTest {
     Checks.due("compact", x.compact(), 1);
     Checks.due("commit", x.commit(), 2);
     Checks.due("discover", x.discover(), 2);
+  }
+
+  private static void compactingOntoWhatWasThere() {
+    Checks.part("a fresh medium is blank and has no defects");
+    WriteOnceDisc x = new WriteOnceDisc(100);
+    x.defect(0);
+    x.defect(1);
+    Checks.due("compact", x.compact(), 1);
+    x.defect(0);
+    x.file(0, w("A"), 2049, 1);
+    Checks.due("compact", x.compact(), 1);
+    Checks.due("no defect of the medium before the last", x.tree(1, 4), 0);
+    x.remove(1);
+    Checks.due("compact", x.compact(), 1);
+    Checks.due("compact", x.compact(), 1);
+    for (int s = 0; s < 16; s++) Checks.due("state " + s, x.state(s), 0);
+    Checks.due("byte", x.byteAt(0), 0);
+    Checks.due("spoil", x.spoil(0, 1), NONE);
   }
 
   private static void compactingAgainAndAgain() {

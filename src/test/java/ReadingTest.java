@@ -30,9 +30,10 @@ public final class ReadingTest {
     directoriesWithoutRecords();
     risingIdentifiers();
     directoriesToldTwice();
+    directoriesInAnotherOrder();
     directoriesInThemselves();
     longDirectories();
-    recordsAcrossSectors();
+    directoriesAmongOtherBytes();
     tooDeep();
     tooManyNodes();
     pathTables();
@@ -163,6 +164,11 @@ public final class ReadingTest {
     Checks.due("the first again", x.open(0), 2);
     x.spoil(17 * S, 0);
     Checks.due("what is open was read before", x.name(1), w("A"));
+    WriteOnceDisc y = new WriteOnceDisc(100);
+    y.commit();
+    Checks.due("the root alone", y.open(0), 1);
+    Checks.due("its parent", y.node(0, 0), NONE);
+    Checks.due("its name", y.name(0), 0);
   }
 
   private static void nodesOfWhatIsOpen() {
@@ -275,7 +281,11 @@ public final class ReadingTest {
     wrong(x, "more bytes than a sector has, found at once", DESCRIPTOR + 132);
     Checks.spoilBoth4(x, DESCRIPTOR + 132, 2048);
     wrong(x, "another number of bytes, found at last", ROOT);
+    Checks.spoilBoth4(x, DESCRIPTOR + 132, 0);
+    wrong(x, "no bytes, found at last", ROOT);
     x.spoil(ROOT, 34);
+    wrong(x, "no bytes", DESCRIPTOR + 132);
+    Checks.spoilBoth4(x, DESCRIPTOR + 132, 2048);
     wrong(x, "another number of bytes", DESCRIPTOR + 132);
     Checks.spoilBoth4(x, DESCRIPTOR + 132, 28);
     wrong(x, "too few bytes", DESCRIPTOR + 132);
@@ -455,6 +465,10 @@ public final class ReadingTest {
       Checks.spoilBoth4(x, ROOT_E + 10, size);
       Checks.due("a directory of size " + size, x.mark(0, 3), -1 - ROOT_E);
     }
+    Checks.spoilBoth4(x, ROOT_E + 10, 0);
+    Checks.spoilBoth4(x, ROOT_E + 2, 0);
+    Checks.due("a directory of no sector", x.mark(0, 3), -1 - ROOT_E);
+    Checks.spoilBoth4(x, ROOT_E + 2, E / S);
     Checks.spoilBoth4(x, ROOT_E + 10, 3 * S);
     Checks.due("a directory into a blank sector", x.mark(0, 3), -1 - ROOT_E);
   }
@@ -541,6 +555,23 @@ public final class ReadingTest {
     wrong(x, "the root reaches into D", ROOT_D);
   }
 
+  /** Nothing says that directories lie on the medium as they stand in the path table. */
+  private static void directoriesInAnotherOrder() {
+    Checks.part("directories in another order");
+    WriteOnceDisc x = sample();
+    Checks.spoilBoth4(x, ROOT_D + 2, E / S);
+    Checks.spoilBoth4(x, ROOT_E + 2, D / S);
+    wrong(x, "L says the old sectors", LOW + 12);
+    x.spoil(LOW + 12, E / S);
+    x.spoil(LOW + 22, D / S);
+    wrong(x, "M says the old sectors", HIGH + 15);
+    x.spoil(HIGH + 15, E / S);
+    x.spoil(HIGH + 25, D / S);
+    Checks.due("it reads", x.mark(0, 3), 6);
+    x.open(0);
+    Checks.due("now F lies in the one that E was", x.node(5, 0), 3);
+  }
+
   private static void directoriesInThemselves() {
     Checks.part("a directory in itself");
     WriteOnceDisc x = new WriteOnceDisc(100);
@@ -594,25 +625,20 @@ public final class ReadingTest {
     wrong(x, "the first record is in the second sector, then", second);
   }
 
-  private static void recordsAcrossSectors() {
-    Checks.part("records and a sector's end");
+  private static void directoriesAmongOtherBytes() {
+    Checks.part("a directory where none is");
     WriteOnceDisc x = new WriteOnceDisc(100);
-    for (int i = 10; i < 38; i++) x.file(0, w("F" + i), 0, 0);
+    x.file(0, w("A"), 6000, 1);
     x.commit();
-    int root = 20 * S;
-    int last = root + 68 + 27 * 40;
-    x.spoil(last, 0);
-    Checks.due("27 files", x.mark(0, 3), 28);
-    x.spoil(last, 40);
-    Checks.due("28 files", x.mark(0, 3), 29);
-    WriteOnceDisc y = new WriteOnceDisc(100);
-    y.file(0, w("A"), 6000, 1);
-    y.commit();
-    // the descriptor's root is told to be in the file's first sector, where no record is
-    Checks.spoilBoth4(y, 19 * S + 156 + 2, 0);
-    wrong(y, "a directory among a file's bytes", 0);
-    y.spoil(0, 34);
-    wrong(y, "a record of a file's bytes", 0);
+    int rootRecord = 19 * S + 156;
+    Checks.spoilBoth4(x, rootRecord + 2, 0);
+    wrong(x, "among a file's bytes", 0);
+    x.spoil(0, 34);
+    wrong(x, "a record of a file's bytes", 0);
+    x.spoil(0, 0);
+    wrong(x, "a byte 0", 0);
+    Checks.spoilBoth4(x, rootRecord + 2, 20);
+    wrong(x, "in the end's sector", 20 * S);
   }
 
   private static void tooDeep() {
