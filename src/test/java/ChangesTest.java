@@ -7,12 +7,15 @@ public final class ChangesTest {
     directories();
     names();
     namesWithGaps();
+    namesInADirectoryAreDifferent();
     depth();
     files();
     thirtyNodes();
     orderOfAnswers();
     replacing();
+    replacingAtTheEdges();
     removing();
+    removingTheRootAlone();
     numbersAreNotGivenAgain();
     renaming();
     renamingDirectories();
@@ -71,6 +74,26 @@ public final class ChangesTest {
     x.open(0);
     Checks.due("name(1)", x.name(1), w("AB"));
     Checks.due("name(2)", x.name(2), w("BA"));
+  }
+
+  private static void namesInADirectoryAreDifferent() {
+    Checks.part("names in a directory are different");
+    WriteOnceDisc x = new WriteOnceDisc(100);
+    x.directory(0, w("D"));
+    x.directory(0, w("E"));
+    Checks.due("a file in D", x.file(1, w("A"), 1, 1), 3);
+    Checks.due("a directory in E by that name", x.directory(2, w("A")), 4);
+    Checks.due("a file in the root by that name", x.file(0, w("A"), 1, 1), 5);
+    Checks.due("its own directory's name", x.file(1, w("D"), 1, 1), 6);
+    Checks.due("a file's name for a file", x.file(1, w("A"), 2, 2), NAMED);
+    Checks.due("a file's name for a directory", x.directory(1, w("A")), NAMED);
+    Checks.due("a directory's name for a file", x.file(2, w("A"), 2, 2), NAMED);
+    Checks.due("a directory's name for a directory", x.directory(2, w("A")), NAMED);
+    Checks.due("a name that another begins with", x.file(1, w("AA"), 1, 1), 7);
+    x.rename(3, 1, w("B"));
+    Checks.due("the old name is free", x.directory(1, w("A")), 8);
+    Checks.due("commit", x.commit(), 1);
+    Checks.due("open", x.open(0), 9);
   }
 
   private static void depth() {
@@ -163,6 +186,41 @@ public final class ChangesTest {
     x.open(1);
     Checks.due("the older session has what it had", x.node(2, 3), 26);
     Checks.due("its bytes too", x.read(2, 2999), Checks.content(255, 2999));
+  }
+
+  private static void replacingAtTheEdges() {
+    Checks.part("replace, the edges of sizes and seeds");
+    WriteOnceDisc x = new WriteOnceDisc(100);
+    x.file(0, w("F"), 10, 1);
+    int[] sizes = {0, 6000};
+    int[] seeds = {0, 255};
+    for (int size : sizes) {
+      for (int seed : seeds) {
+        Checks.due("size " + size + ", seed " + seed, x.replace(1, size, seed), 0);
+        Checks.due("its size", x.tree(1, 2), size);
+        Checks.due("its seed", x.tree(1, 3), seed);
+      }
+    }
+    int[] none = {-1, 6001, Integer.MIN_VALUE, Integer.MAX_VALUE};
+    for (int size : none) Checks.due("size " + size, x.replace(1, size, 7), WRONG);
+    int[] no = {-1, 256, Integer.MIN_VALUE, Integer.MAX_VALUE};
+    for (int seed : no) Checks.due("seed " + seed, x.replace(1, 7, seed), WRONG);
+    Checks.due("its size is as it was", x.tree(1, 2), 6000);
+    Checks.due("its seed is as it was", x.tree(1, 3), 255);
+  }
+
+  private static void removingTheRootAlone() {
+    Checks.part("remove the root, in which nothing is");
+    WriteOnceDisc x = new WriteOnceDisc(100);
+    Checks.due("remove", x.remove(0), WRONG);
+    Checks.due("it is still there", x.tree(0, 1), 0);
+    Checks.due("replace", x.replace(0, 1, 1), WRONG);
+    Checks.due("rename", x.rename(0, 0, w("A")), WRONG);
+    x.directory(0, w("D"));
+    x.remove(1);
+    Checks.due("remove, when all in it are gone", x.remove(0), WRONG);
+    Checks.due("commit", x.commit(), 1);
+    Checks.due("open", x.open(0), 1);
   }
 
   private static void removing() {

@@ -5,8 +5,10 @@ public final class DiscoveryTest {
   public static void main(String[] args) {
     theTreeOfTheLast();
     changesAreForgotten();
+    theRootAloneWhenThereIsNone();
     afterLostPowerAtEveryWrite();
     anEarlierOneWhenTheLastIsSpoilt();
+    thirtyNodes();
     whatIsOpenStays();
     discoveredDirectories();
     discoveredFilesAreNotWrittenAgain();
@@ -15,6 +17,9 @@ public final class DiscoveryTest {
     compactingTakesTheMediumsBytes();
     compactingWithoutPower();
     compactingWithoutRoom();
+    compactingFitsToTheLastSector();
+    compactingLeavesDirectories();
+    compactingLostAndFull();
     compactingGivesRoom();
     compactingAgainAndAgain();
     compactingOntoWhatWasThere();
@@ -75,6 +80,39 @@ public final class DiscoveryTest {
     Checks.due("none complete", y.discover(), 0);
     Checks.none("the root alone", () -> y.tree(1, 0));
     Checks.due("its parent", y.tree(0, 0), NONE);
+  }
+
+  private static void theRootAloneWhenThereIsNone() {
+    Checks.part("the root alone");
+    WriteOnceDisc x = new WriteOnceDisc(100);
+    x.file(0, w("A"), 10, 1);
+    x.directory(0, w("D"));
+    x.commit();
+    x.discover();
+    x.spoil((1 + 16) * 2048, 0);
+    Checks.due("none is complete any more", x.discover(), 0);
+    Checks.due("the root's parent", x.tree(0, 0), NONE);
+    Checks.due("the root's sort", x.tree(0, 1), 0);
+    Checks.none("node 1", () -> x.tree(1, 0));
+    Checks.none("node 2", () -> x.tree(2, 0));
+    Checks.due("numbers are given again", x.directory(0, w("A")), 1);
+    Checks.due("the number of the session", x.commit(), 1);
+    Checks.due("behind what is there", x.mark(1, 1), 24);
+    Checks.due("discover", x.discover(), 1);
+  }
+
+  private static void thirtyNodes() {
+    Checks.part("thirty nodes that were discovered");
+    WriteOnceDisc x = new WriteOnceDisc(100);
+    for (int i = 1; i < 30; i++) x.file(0, w("F" + i), i % 2, i);
+    x.commit();
+    x.remove(7);
+    Checks.due("discover", x.discover(), 1);
+    Checks.due("the last node", x.tree(29, 1), 1);
+    Checks.none("node 30", () -> x.tree(30, 1));
+    Checks.due("no more", x.file(0, w("G"), 1, 1), FULL);
+    Checks.due("remove", x.remove(29), 0);
+    Checks.due("one more", x.file(0, w("G"), 1, 1), 30);
   }
 
   /** Wherever power goes, the session before is found whole; with the last write the new one is. */
@@ -288,6 +326,61 @@ public final class DiscoveryTest {
     Checks.due("commit writes them", y.commit(), FULL);
     Checks.due("writes", y.writes(), 78);
     Checks.due("written", y.tree(2, 4), 3);
+  }
+
+  private static void compactingFitsToTheLastSector() {
+    Checks.part("compact, the last sector");
+    WriteOnceDisc x = new WriteOnceDisc(40);
+    for (int i = 0; i < 6; i++) x.file(0, w("F" + i), 6000, i);
+    Checks.due("a session that just fits", x.compact(), 1);
+    Checks.due("the mark is the last sector", x.mark(0, 0), 39);
+    Checks.due("open", x.open(0), 7);
+    x.file(0, w("G"), 0, 0);
+    Checks.due("a file of size 0 more", x.compact(), 1);
+    x.replace(7, 1, 0);
+    Checks.due("a byte more", x.compact(), FULL);
+    Checks.due("the old one stays", x.mark(0, 3), 8);
+    x.replace(7, 0, 0);
+    x.directory(0, w("D"));
+    Checks.due("a directory more", x.compact(), FULL);
+    Checks.due("the old one stays", x.mark(0, 3), 8);
+    Checks.due("its number", x.mark(0, 2), 1);
+  }
+
+  private static void compactingLeavesDirectories() {
+    Checks.part("directories when they are compacted");
+    WriteOnceDisc x = new WriteOnceDisc(100);
+    x.directory(0, w("D"));
+    x.file(1, w("F"), 1, 1);
+    Checks.due("compact", x.compact(), 1);
+    for (int k = 0; k < 2; k++) {
+      Checks.due("size of " + k, x.tree(k, 2), 0);
+      Checks.due("seed of " + k, x.tree(k, 3), 0);
+      Checks.due("extent of " + k, x.tree(k, 4), 0);
+    }
+    x.commit();
+    Checks.due("extent of the root, committed", x.tree(0, 4), 0);
+    Checks.due("extent of D, committed", x.tree(1, 4), 0);
+    x.discover();
+    x.compact();
+    Checks.due("seed of D, discovered", x.tree(1, 3), NONE);
+    Checks.due("extent of D, discovered", x.tree(1, 4), 0);
+    Checks.due("seed of F, discovered", x.tree(2, 3), NONE);
+  }
+
+  private static void compactingLostAndFull() {
+    Checks.part("compact, LOST and FULL");
+    WriteOnceDisc x = new WriteOnceDisc(40);
+    for (int i = 0; i < 15; i++) x.file(0, w("F" + i), 6000, i);
+    x.power(39);
+    Checks.due("no room, and power for all that has room", x.compact(), FULL);
+    Checks.due("writes", x.writes(), 39);
+    Checks.due("power is not lost", x.file(0, w("G"), 1, 1), 16);
+    Checks.due("it was spent", x.compact(), LOST);
+    Checks.due("writes", x.writes(), 40);
+    Checks.due("it was lost before", x.compact(), LOST);
+    Checks.due("nothing happens", x.writes(), 40);
+    Checks.due("the old medium", x.state(0), 0);
   }
 
   private static void compactingGivesRoom() {

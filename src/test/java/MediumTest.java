@@ -6,10 +6,14 @@ public final class MediumTest {
     defects();
     defectsOfWrittenSectors();
     power();
+    powerGoesInAnExtent();
+    powerForTheMostWrites();
     powerComesBackByDiscoveryAlone();
     powerThatIsNotLostGoesOn();
+    badSectorsHaveBytesZero();
     stateAndBytes();
     spoiling();
+    spoilingTheEdgesOfASector();
     writes();
     Checks.finish();
   }
@@ -75,6 +79,56 @@ public final class MediumTest {
     Checks.due("a bad sector's write spends power", z.commit(), LOST);
     Checks.due("state(16)", z.state(16), 2);
     Checks.due("state(33), behind the new base 17", z.state(33), 2);
+  }
+
+  /** Nothing is written behind the sector in which power went, though a session would have had room. */
+  private static void powerGoesInAnExtent() {
+    Checks.part("power goes in an extent");
+    for (int n = 0; n <= 4; n++) {
+      WriteOnceDisc x = new WriteOnceDisc(100);
+      x.file(0, Checks.word("B"), 1, 1);
+      x.file(0, Checks.word("A"), 6000, 2);
+      x.power(n);
+      Checks.due("commit with power for " + n, x.commit(), LOST);
+      Checks.due("writes", x.writes(), n + 1);
+      int bad = n < 4 ? n : 4 + 16;
+      for (int s = 0; s < 30; s++) {
+        Checks.due("state " + s + ", power for " + n, x.state(s), s == bad ? 2 : s < n && s < 4 ? 1 : 0);
+      }
+      Checks.due("extent of one that is not whole", x.tree(2, 4), n < 4 ? 0 : 1);
+      Checks.due("file", x.file(0, Checks.word("C"), 1, 1), LOST);
+    }
+  }
+
+  private static void powerForTheMostWrites() {
+    Checks.part("power for the most writes");
+    WriteOnceDisc x = new WriteOnceDisc(100);
+    x.power(Integer.MAX_VALUE);
+    Checks.due("commit", x.commit(), 1);
+    x.power(1);
+    x.power(6);
+    Checks.due("what was told last counts", x.commit(), 2);
+    x.power(5);
+    Checks.due("one too few", x.commit(), LOST);
+  }
+
+  private static void badSectorsHaveBytesZero() {
+    Checks.part("bad sectors have bytes 0");
+    WriteOnceDisc x = new WriteOnceDisc(100);
+    x.defect(0);
+    x.power(1);
+    x.file(0, Checks.word("A"), 2048, 77);
+    Checks.due("commit", x.commit(), LOST);
+    for (int s = 0; s < 2; s++) {
+      Checks.due("state " + s, x.state(s), 2);
+      int[] places = {0, 1, 1000, 2047};
+      for (int i : places) {
+        Checks.due("byte " + i + " of " + s, x.byteAt(s * 2048 + i), 0);
+        Checks.due("spoil byte " + i + " of " + s, x.spoil(s * 2048 + i, 5), NONE);
+        Checks.due("byte " + i + " of " + s + " then", x.byteAt(s * 2048 + i), 0);
+      }
+    }
+    Checks.due("state 2", x.state(2), 0);
   }
 
   private static void powerComesBackByDiscoveryAlone() {
@@ -147,6 +201,25 @@ public final class MediumTest {
     Checks.due("writes", x.writes(), 10);
     Checks.due("the extent was begun anew", x.tree(1, 4), 2);
     Checks.due("its last byte", x.spoil(4 * 2048 - 1, 1), 0);
+  }
+
+  private static void spoilingTheEdgesOfASector() {
+    Checks.part("the edges of a written sector");
+    WriteOnceDisc x = new WriteOnceDisc(40);
+    x.commit();
+    Checks.due("ahead of the first written byte", x.spoil(16 * 2048 - 1, 9), NONE);
+    Checks.due("the first", x.spoil(16 * 2048, 9), 1);
+    Checks.due("the last", x.spoil(22 * 2048 - 1, 9), 0);
+    Checks.due("behind it", x.spoil(22 * 2048, 9), NONE);
+    Checks.due("the first is another one", x.byteAt(16 * 2048), 9);
+    Checks.due("the last is another one", x.byteAt(22 * 2048 - 1), 9);
+    Checks.due("256 is 0", x.spoil(16 * 2048, 256), 9);
+    Checks.due("-256 is 0", x.spoil(16 * 2048, -256), 0);
+    Checks.due("255", x.spoil(16 * 2048, 255), 0);
+    Checks.due("MIN is 0", x.spoil(16 * 2048, Integer.MIN_VALUE), 255);
+    Checks.due("MAX is 255", x.spoil(16 * 2048, Integer.MAX_VALUE), 0);
+    Checks.due("at last", x.byteAt(16 * 2048), 255);
+    Checks.due("no write of it counts", x.writes(), 6);
   }
 
   private static void writes() {

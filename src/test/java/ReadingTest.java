@@ -12,24 +12,30 @@ public final class ReadingTest {
 
   public static void main(String[] args) {
     marks();
+    marksAtTheEdges();
     marksOnOddSectors();
+    marksThatLostPower();
     opening();
     nodesOfWhatIsOpen();
     reading();
     headSectors();
     headOffTheMedium();
     descriptorFields();
+    numbersOfFourBytes();
     whatIsNotLookedAt();
     rootRecord();
     recordLengths();
+    identifiersOfNoBytes();
     recordHalves();
     recordKinds();
     identifiers();
     sizesAndSectors();
+    theLastSectorOfTheMedium();
     firstAndSecondRecords();
     directoriesWithoutRecords();
     risingIdentifiers();
     directoriesToldTwice();
+    directoriesAndFilesInOneSector();
     directoriesInAnotherOrder();
     directoriesInThemselves();
     longDirectories();
@@ -37,7 +43,9 @@ public final class ReadingTest {
     tooDeep();
     tooManyNodes();
     pathTables();
+    longestPathTable();
     theFirstThatIsWrong();
+    whatReadingLeavesAlone();
     Checks.finish();
   }
 
@@ -122,6 +130,56 @@ public final class ReadingTest {
     x.spoil(22 * S + 7, 0);
     x.spoil(22 * S + 12, 77);
     Checks.due("what lies behind is free", x.mark(0, 0), 22);
+  }
+
+  private static void marksAtTheEdges() {
+    Checks.part("marks, the edges");
+    for (int i = 0; i < 4; i++) {
+      WriteOnceDisc x = sample();
+      x.spoil(MARK + i, 0);
+      Checks.none("without its letter " + i, () -> x.mark(0, 0));
+      Checks.due("discover", x.discover(), 0);
+    }
+    int sector = MARK / S;
+    int[] bases = {-1, sector, sector + 1, Integer.MIN_VALUE, Integer.MAX_VALUE, 1 << 24};
+    for (int base : bases) {
+      WriteOnceDisc x = sample();
+      Checks.spoilLow4(x, MARK + 4, base);
+      Checks.none("base " + base, () -> x.mark(0, 0));
+      Checks.due("discover", x.discover(), 0);
+    }
+    int[] right = {0, sector - 1};
+    for (int base : right) {
+      WriteOnceDisc x = sample();
+      Checks.spoilLow4(x, MARK + 4, base);
+      Checks.due("base " + base, x.mark(0, 1), base);
+      Checks.due("discover", x.discover(), 0);
+    }
+    int[] numbers = {0, -1, Integer.MIN_VALUE};
+    for (int number : numbers) {
+      WriteOnceDisc x = sample();
+      Checks.spoilLow4(x, MARK + 8, number);
+      Checks.none("number " + number, () -> x.mark(0, 0));
+      Checks.due("discover", x.discover(), 0);
+    }
+    int[] above = {1, 1 << 24, Integer.MAX_VALUE};
+    for (int number : above) {
+      WriteOnceDisc x = sample();
+      Checks.spoilLow4(x, MARK + 8, number);
+      Checks.due("number " + number, x.mark(0, 2), number);
+      Checks.due("discover", x.discover(), 1);
+    }
+  }
+
+  private static void marksThatLostPower() {
+    Checks.part("marks that proved bad");
+    WriteOnceDisc x = new WriteOnceDisc(100);
+    x.power(5);
+    x.commit();
+    x.discover();
+    Checks.due("the mark's sector", x.state(21), 2);
+    Checks.none("it is no mark", () -> x.mark(0, 0));
+    Checks.due("nor is it opened", x.open(0), -1000000);
   }
 
   private static void marksOnOddSectors() {
@@ -297,6 +355,31 @@ public final class ReadingTest {
     wrong(y, "both halves of another number", DESCRIPTOR + 128);
   }
 
+  /** A number whose lower bytes alone would be right. */
+  private static void numbersOfFourBytes() {
+    Checks.part("numbers of four bytes");
+    for (int bits = 16; bits <= 24; bits += 8) {
+      int high = 1 << bits;
+      fourBytes("the path table's bytes", DESCRIPTOR + 132, high + 30, DESCRIPTOR + 132);
+      fourBytes("the root's sector", DESCRIPTOR + 158, high + ROOT / S, DESCRIPTOR + 156);
+      fourBytes("the root's size", DESCRIPTOR + 166, high + S, DESCRIPTOR + 156);
+      fourBytes("a file's sector", ROOT_A + 2, high, ROOT_A);
+      fourBytes("a file's size", ROOT_A + 10, high + 3000, ROOT_A);
+      fourBytes("a directory's sector", ROOT_D + 2, high + D / S, ROOT_D);
+      fourBytes("a directory's size", ROOT_D + 10, high + S, ROOT_D);
+      fourBytes("a sector for size 0", ROOT_Z + 2, high, ROOT_Z);
+      fourBytes("its own sector", D + 2, high + D / S, D);
+      fourBytes("its parent's sector", D + 36, high + ROOT / S, D + 34);
+    }
+    fourBytes("the path table's bytes below 0", DESCRIPTOR + 132, -1, DESCRIPTOR + 132);
+  }
+
+  private static void fourBytes(String what, int address, int value, int place) {
+    WriteOnceDisc x = sample();
+    Checks.spoilBoth4(x, address, value);
+    wrong(x, what + " " + value, place);
+  }
+
   private static void whatIsNotLookedAt() {
     Checks.part("what reading does not look at");
     stillReads("N", DESCRIPTOR + 80, 1);
@@ -357,6 +440,21 @@ public final class ReadingTest {
     spoilt("none", ROOT_D + 32, 0, ROOT_D);
     spoilt("of a directory's first record", ROOT, 36, ROOT);
     spoilt("of its second", ROOT + 34, 36, ROOT + 34);
+  }
+
+  /** Thirty-four bytes are as many as no identifier would need, too. */
+  private static void identifiersOfNoBytes() {
+    Checks.part("identifiers of no bytes");
+    spoilt("the root's record", DESCRIPTOR + 156 + 32, 0, DESCRIPTOR + 156);
+    spoilt("the root's first", ROOT + 32, 0, ROOT);
+    spoilt("the root's second", ROOT + 34 + 32, 0, ROOT + 34);
+    spoilt("D's first", D + 32, 0, D);
+    spoilt("D's second", D + 34 + 32, 0, D + 34);
+    spoilt("of two bytes", D + 32, 2, D);
+    WriteOnceDisc x = sample();
+    x.spoil(D + 34 + 32, 0);
+    x.spoil(D + 34 + 33, 0);
+    wrong(x, "none, and a byte 0 behind it", D + 34);
   }
 
   private static void recordHalves() {
@@ -458,6 +556,44 @@ public final class ReadingTest {
     badSectors();
   }
 
+  /** A file's record is made to say sectors up to the medium's end, which is the session's mark. */
+  private static void theLastSectorOfTheMedium() {
+    Checks.part("the last sector of the medium");
+    WriteOnceDisc x = new WriteOnceDisc(40);
+    for (int i = 0; i < 6; i++) x.file(0, w("F" + i), 6000, i);
+    x.commit();
+    int root = 38 * S;
+    int f0 = root + 68;
+    Checks.spoilBoth4(x, f0 + 2, 39);
+    Checks.spoilBoth4(x, f0 + 10, S);
+    Checks.due("the last sector", x.mark(0, 3), 7);
+    Checks.due("open", x.open(0), 7);
+    Checks.due("its first byte", x.read(1, 0), 'M');
+    Checks.due("its last byte", x.read(1, S - 1), 0);
+    Checks.none("behind it", () -> x.read(1, S));
+    Checks.spoilBoth4(x, f0 + 10, S + 1);
+    wrong(x, "a byte more", f0);
+    Checks.spoilBoth4(x, f0 + 2, 34);
+    Checks.spoilBoth4(x, f0 + 10, 6 * S);
+    Checks.due("six sectors up to the last", x.mark(0, 3), 7);
+    Checks.spoilBoth4(x, f0 + 10, 6 * S + 1);
+    wrong(x, "six sectors and a byte", f0);
+    Checks.spoilBoth4(x, f0 + 2, 33);
+    Checks.spoilBoth4(x, f0 + 10, 7 * S);
+    wrong(x, "from a blank one on", f0);
+    Checks.spoilBoth4(x, f0 + 2, 40);
+    Checks.spoilBoth4(x, f0 + 10, 1);
+    wrong(x, "a byte behind the medium's end", f0);
+    Checks.spoilBoth4(x, f0 + 2, 0);
+    Checks.spoilBoth4(x, f0 + 10, 18 * S);
+    Checks.due("from sector 0 on", x.mark(0, 3), 7);
+    Checks.spoilBoth4(x, f0 + 2, -1);
+    wrong(x, "from ahead of sector 0 on", f0);
+    Checks.spoilBoth4(x, f0 + 2, 0);
+    Checks.spoilBoth4(x, f0 + 10, 18 * S + 1);
+    wrong(x, "into a blank sector", f0);
+  }
+
   private static void sizesOfDirectories() {
     WriteOnceDisc x = sample();
     int[] sizes = {0, 1, 2047, 2049, -2048, Integer.MIN_VALUE};
@@ -553,6 +689,28 @@ public final class ReadingTest {
     Checks.spoilBoth4(x, ROOT + 10, 2 * S);
     Checks.spoilBoth4(x, ROOT + 44, 2 * S);
     wrong(x, "the root reaches into D", ROOT_D);
+  }
+
+  /** Files are not asked whose sectors they have; a directory that comes behind them may have one of these. */
+  private static void directoriesAndFilesInOneSector() {
+    Checks.part("directories and files in one sector");
+    WriteOnceDisc x = sample();
+    Checks.spoilBoth4(x, ROOT_A + 10, 2 * S);
+    Checks.spoilBoth4(x, ROOT_A + 2, D / S);
+    Checks.due("A has the sectors of D and E, which come behind it", x.mark(0, 3), 6);
+    Checks.spoilBoth4(x, D_F + 2, ROOT / S);
+    Checks.due("F has the root's", x.mark(0, 3), 6);
+    Checks.spoilBoth4(x, D_F + 2, 0);
+    Checks.due("two files have the same", x.mark(0, 3), 6);
+    Checks.due("discover", x.discover(), 1);
+    // E is told where D's first sector is, and reaches no further than D; then D from E on
+    WriteOnceDisc y = sample();
+    Checks.spoilBoth4(y, ROOT_D + 2, E / S);
+    Checks.spoilBoth4(y, ROOT_E + 2, D / S);
+    Checks.spoilBoth4(y, ROOT_E + 10, 2 * S);
+    wrong(y, "E reaches into D, which was told before", ROOT_E);
+    Checks.spoilBoth4(y, ROOT_E + 10, S);
+    wrong(y, "E ends ahead of D", LOW + 12);
   }
 
   /** Nothing says that directories lie on the medium as they stand in the path table. */
@@ -703,6 +861,58 @@ public final class ReadingTest {
     WriteOnceDisc y = sample();
     y.spoil(ROOT_E, 0);
     wrong(y, "a directory that is not there", DESCRIPTOR + 132);
+  }
+
+  private static void longestPathTable() {
+    Checks.part("the longest path table");
+    int length = 10 + 29 * 16;
+    int[] places = {0, 9, 10, 45, 46, 47, 255, 256, 449, 450, 451, length - 2, length - 1};
+    for (int low = 0; low < 2; low++) {
+      for (int place : places) {
+        WriteOnceDisc x = thirtyDirectories();
+        int at = (low == 0 ? 18 : 19) * S + place;
+        x.spoil(at, x.byteAt(at) + 1);
+        wrong(x, "byte " + place, at);
+      }
+      stillReadsBehind((low == 0 ? 18 : 19) * S + length);
+    }
+    int[] lengths = {length - 1, length + 1, length - 16, length + 16, 2048, 0};
+    for (int said : lengths) {
+      WriteOnceDisc x = thirtyDirectories();
+      Checks.spoilBoth4(x, 16 * S + 132, said);
+      wrong(x, "said to have " + said + " bytes", 16 * S + 132);
+    }
+  }
+
+  private static void stillReadsBehind(int address) {
+    WriteOnceDisc x = thirtyDirectories();
+    x.spoil(address, 7);
+    Checks.due("the byte behind the table", x.mark(0, 3), 30);
+  }
+
+  private static WriteOnceDisc thirtyDirectories() {
+    WriteOnceDisc x = new WriteOnceDisc(100);
+    for (int i = 10; i < 39; i++) x.directory(0, w("LONGES" + i));
+    Checks.due("commit", x.commit(), 1);
+    return x;
+  }
+
+  private static void whatReadingLeavesAlone() {
+    Checks.part("what reading leaves alone");
+    WriteOnceDisc x = sample();
+    x.commit();
+    x.open(0);
+    x.spoil((x.mark(1, 1) + 17) * S, 1);
+    x.remove(5);
+    int writes = x.writes();
+    Checks.due("a wrong session", x.mark(1, 3), -1 - (x.mark(1, 1) + 17) * S);
+    Checks.due("what is open stays", x.name(5), w("F"));
+    Checks.due("the tree stays", x.tree(4, 2), 100);
+    Checks.none("its changes too", () -> x.tree(5, 0));
+    Checks.due("opened", x.open(1), -1 - (x.mark(1, 1) + 17) * S);
+    Checks.due("the tree stays then", x.tree(4, 3), 2);
+    Checks.due("nothing is written", x.writes(), writes);
+    Checks.due("the number is told by what was completed", x.commit(), 3);
   }
 
   private static void theFirstThatIsWrong() {
