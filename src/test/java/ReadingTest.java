@@ -372,6 +372,12 @@ public final class ReadingTest {
       fourBytes("its parent's sector", D + 36, high + ROOT / S, D + 34);
     }
     fourBytes("the path table's bytes below 0", DESCRIPTOR + 132, -1, DESCRIPTOR + 132);
+    for (int bits = 16; bits <= 24; bits += 8) {
+      WriteOnceDisc x = sample();
+      x.spoil(ROOT, 1);
+      Checks.spoilBoth4(x, DESCRIPTOR + 132, (1 << bits) + 30);
+      wrong(x, "more bytes than a sector has, found ahead of the root", DESCRIPTOR + 132);
+    }
   }
 
   private static void fourBytes(String what, int address, int value, int place) {
