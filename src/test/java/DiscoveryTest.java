@@ -23,6 +23,7 @@ public final class DiscoveryTest {
     compactingGivesRoom();
     compactingAgainAndAgain();
     compactingOntoWhatWasThere();
+    badSectorsOfAFreshMedium();
     Checks.finish();
   }
 
@@ -411,6 +412,30 @@ public final class DiscoveryTest {
     for (int s = 0; s < 16; s++) Checks.due("state " + s, x.state(s), 0);
     Checks.due("byte", x.byteAt(0), 0);
     Checks.due("spoil", x.spoil(0, 1), NONE);
+  }
+
+  /** A sector that was written on an older medium proves bad on a fresh one. */
+  private static void badSectorsOfAFreshMedium() {
+    Checks.part("bad sectors of a fresh medium");
+    WriteOnceDisc x = new WriteOnceDisc(100);
+    x.file(0, w("A"), 6000, 77);
+    x.commit();
+    x.remove(1);
+    for (int i = 0; i < 3; i++) {
+      Checks.due("compact", x.compact(), 1);
+      x.defect(22);
+      x.power(1);
+      x.file(0, w("B"), 1, 5);
+      Checks.due("commit", x.commit(), LOST);
+      for (int s = 22; s < 24; s++) {
+        Checks.due("state " + s, x.state(s), 2);
+        Checks.due("byte of " + s, x.byteAt(s * 2048), 0);
+        Checks.due("spoil " + s, x.spoil(s * 2048, 9), NONE);
+        Checks.due("byte of " + s + " then", x.byteAt(s * 2048), 0);
+      }
+      Checks.due("a blank one", x.spoil(24 * 2048, 9), NONE);
+      Checks.due("discover", x.discover(), 1);
+    }
   }
 
   private static void compactingAgainAndAgain() {

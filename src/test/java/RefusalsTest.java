@@ -184,6 +184,11 @@ public final class RefusalsTest {
   /** New nodes, and sessions until power goes or there is no room: numbers, defects and power are as they were. */
   private static String goingOn(WriteOnceDisc x) {
     StringBuilder text = new StringBuilder("going on ");
+    // where thirty nodes are there, the next number is seen only when some are gone
+    for (int k = 28; k < 33; k++) {
+      int kk = k;
+      add(text, x, y -> y.remove(kk));
+    }
     for (int i = 0; i < 4; i++) {
       String name = "NEXT" + i;
       add(text, x, y -> y.directory(0, w(name)));
@@ -391,6 +396,15 @@ public final class RefusalsTest {
     refused("rename, NAMED", state, LOST, x -> x.rename(F, 0, w("A")));
     refused("commit", state, LOST, x -> x.commit());
     refused("compact", state, LOST, x -> x.compact());
+    for (int node : NO_NODES) {
+      refused("directory in " + node, state, LOST, x -> x.directory(node, w("N")));
+      refused("file in " + node, state, LOST, x -> x.file(node, w("N"), 1, 1));
+      refused("replace " + node, state, LOST, x -> x.replace(node, 1, 1));
+      refused("remove " + node, state, LOST, x -> x.remove(node));
+      refused("rename " + node, state, LOST, x -> x.rename(node, 0, w("N")));
+      refused("rename into " + node, state, LOST, x -> x.rename(F, node, w("N")));
+    }
+    for (long name : NO_NAMES) refused("name " + name, state, LOST, x -> x.rename(F, 0, name));
     Steps full = x -> {
       thirtyNodes(x);
       x.power(0);
