@@ -21,6 +21,7 @@ public final class ReadingTest {
     headSectors();
     headOffTheMedium();
     descriptorFields();
+    everyBitOfTheFields();
     numbersOfFourBytes();
     whatIsNotLookedAt();
     rootRecord();
@@ -353,6 +354,31 @@ public final class ReadingTest {
     y.spoil(DESCRIPTOR + 129, 9);
     y.spoil(DESCRIPTOR + 130, 9);
     wrong(y, "both halves of another number", DESCRIPTOR + 128);
+  }
+
+  private static void everyBitOfTheFields() {
+    Checks.part("every bit of the descriptor's fields");
+    int[] fields = {128, 132, 140, 148};
+    int[] lengths = {4, 8, 4, 4};
+    for (int f = 0; f < fields.length; f++) {
+      int place = DESCRIPTOR + fields[f];
+      for (int i = 0; i < lengths[f]; i++) {
+        for (int bit = 1; bit < 256; bit *= 2) {
+          WriteOnceDisc x = sample();
+          x.spoil(place + i, x.byteAt(place + i) ^ bit);
+          wrong(x, "bit " + bit + " of byte " + i + " at " + fields[f], place);
+        }
+      }
+    }
+    // 110 + 19 is 128 + 1: the bytes 1, 1 are neither
+    WriteOnceDisc x = new WriteOnceDisc(200);
+    for (int i = 0; i < 6; i++) x.commit();
+    Checks.due("the sixth base", x.mark(5, 1), 110);
+    int m = (110 + 16) * S + 148;
+    Checks.due("M", x.byteAt(m + 3), 129);
+    x.spoil(m + 2, 1);
+    x.spoil(m + 3, 1);
+    Checks.due("M, 257", x.mark(5, 3), -1 - m);
   }
 
   /** A number whose lower bytes alone would be right. */
