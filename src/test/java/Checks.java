@@ -5,7 +5,7 @@ final class Checks {
   static final int SECTOR = 2048;
 
   private static int wrong = 0;
-  private static int asked = 0;
+  private static long asked = 0;
   private static String part = "";
 
   interface Call {
